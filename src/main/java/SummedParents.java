@@ -77,7 +77,7 @@ public final class SummedParents {
         if (error != 0) {
             return error;
         }
-        history.record(state);
+        history.keep(state);
         return state.carryOut(way, leaf, place, value);
     }
 
@@ -85,7 +85,7 @@ public final class SummedParents {
         if (!below(kind, MISHAPS)) {
             return INVALID_ARGUMENT;
         }
-        history.record(state);
+        history.keep(state);
         int before = state.nextMishap;
         state.nextMishap = kind;
         return before;
@@ -96,7 +96,7 @@ public final class SummedParents {
                 || !below(place, PLACES) || !below(value, NUMBERS_END)) {
             return INVALID_ARGUMENT;
         }
-        history.record(state);
+        history.keep(state);
         int before = state.blocks.numberAt(copy, block, place);
         state.blocks.put(copy, block, place, value);
         return before;
@@ -147,12 +147,12 @@ public final class SummedParents {
         if (!isRoot(root) || !below(leaf, LEAVES)) {
             return INVALID_ARGUMENT;
         }
-        history.record(state);
+        history.keep(state);
         return state.mendWay(way, root, leaf);
     }
 
     public int scrub() {
-        history.record(state);
+        history.keep(state);
         int unlike = 0;
         for (int root = 0; root < state.roots.size(); root++) {
             for (int leaf = 0; leaf < LEAVES; leaf++) {
@@ -186,7 +186,7 @@ public final class SummedParents {
         if (root == 0) {
             return NOT_POSSIBLE;
         }
-        history.record(state);
+        history.keep(state);
         state.roots.remove(root, 1);
         return state.settleUse(ownBlocks);
     }
@@ -195,7 +195,7 @@ public final class SummedParents {
         if (!isRoot(root)) {
             return INVALID_ARGUMENT;
         }
-        history.record(state);
+        history.keep(state);
         if (root == 0) {
             return 0;
         }
@@ -243,8 +243,7 @@ public final class SummedParents {
             case 4:
                 return state.unlikeInUse();
             case 5:
-                int lowest = state.used.lowestOutside();
-                return lowest < 0 ? NOT_FOUND : lowest;
+                return lowestFree();
             case 6:
                 return history.size();
             case 7:
@@ -303,7 +302,7 @@ public final class SummedParents {
         if (verdict.reason != NO_FAULT) {
             return NOT_POSSIBLE;
         }
-        history.record(state);
+        history.keep(state);
         state.copyFrom(trial);
         return verdict.writes;
     }
@@ -312,6 +311,11 @@ public final class SummedParents {
 
     private boolean isRoot(int root) {
         return below(root, state.roots.size());
+    }
+
+    private int lowestFree() {
+        int block = state.used.lowestOutside();
+        return block < 0 ? NOT_FOUND : block;
     }
 
     /** Tells of the way found last whether it is of a kind that leaves() asks for. */
@@ -864,7 +868,7 @@ public final class SummedParents {
             return size;
         }
 
-        void record(State now) {
+        void keep(State now) {
             if (size >= MOST_STATES) {
                 dropOldest();
             }
