@@ -397,6 +397,12 @@ public final class PromiseTests {
         due("from(0, 3, 1)", tree.from(0, 3, 1), 1);
         due("from(0, 0, 2)", tree.from(0, 0, 2), 0);
         due("count(2)", tree.count(2), 0);
+        tree.write(0, 3, 4);
+        tree.mishap(2);
+        tree.write(0, 2, 3);
+        dueContent(27, 0, 999, 0, 3, 4);
+        dueContent(28, 0, 0, 0, 0, 0);
+        dueContent(28, 1, tree.content(28, 1, 0), 263, 519, 775);
     }
 
     private void swapped() {
@@ -411,6 +417,12 @@ public final class PromiseTests {
         due("rootOf(0, 2)", tree.rootOf(0, 2), 85);
         due("read(0, 0, 0)", tree.read(0, 0, 0), 999);
         due("count(4)", tree.count(4), 2);
+        tree.write(0, 3, 4);
+        tree.mishap(3);
+        tree.write(0, 2, 3);
+        dueContent(28, 0, 999, 0, 3, 4);
+        dueContent(27, 1, 999, 0, 3, 4);
+        dueContent(27, 0, tree.content(28, 1, 0), 263, 519, 775);
     }
 
     private void mishapOnce() {
@@ -612,6 +624,7 @@ public final class PromiseTests {
 
     private void mend() {
         due("mend(0, 0)", tree.mend(0, 0), 0);
+        due("count(6)", tree.count(6), 1);
         tree.rot(20, 0, 0, 1);
         tree.rot(16, 1, 1, 2);
         tree.rot(0, 0, 2, 3);
