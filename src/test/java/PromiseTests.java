@@ -1,20 +1,11 @@
-import java.util.ArrayList;
 import java.util.List;
 
 /** Each promise by runs that are worked out by hand: ordinary inputs, edges and wrong inputs. */
-public final class PromiseTests {
-    private static final int INVALID = SummedParents.INVALID_ARGUMENT;
-    private static final int IMPOSSIBLE = SummedParents.NOT_POSSIBLE;
-    private static final int LIMIT = SummedParents.LIMIT_REACHED;
-    private static final int NONE = SummedParents.NOT_FOUND;
-
+public final class PromiseTests extends Fixture {
     private static final Check CHECK = new Check("promises");
 
-    private SummedParents tree = new SummedParents();
-    private String where = "";
-
     private PromiseTests(String where) {
-        this.where = where;
+        super(CHECK, where);
     }
 
     public static void main(String[] args) {
@@ -61,53 +52,6 @@ public final class PromiseTests {
         new PromiseTests("21 play").play();
         new PromiseTests("21 play, mishap").playMishap();
         CHECK.end();
-    }
-
-    private void due(String call, int got, int want) {
-        CHECK.due(where + ": " + call, got, want);
-    }
-
-    private void dueContent(int block, int copy, int... want) {
-        for (int place = 0; place < 4; place++) {
-            due("content(" + block + ", " + copy + ", " + place + ")",
-                    tree.content(block, copy, place), want[place]);
-        }
-    }
-
-    private void dueCounts(int... want) {
-        for (int what = 0; what < want.length; what++) {
-            due("count(" + what + ")", tree.count(what), want[what]);
-        }
-    }
-
-    private void type(String text) {
-        for (char each : text.toCharArray()) {
-            tree.type(each);
-        }
-    }
-
-    private void dueFault(String text, int position, int reason, int cause) {
-        tree.clearText();
-        type(text);
-        due("fault(0) of " + text, tree.fault(0), position);
-        due("fault(1) of " + text, tree.fault(1), reason);
-        due("fault(2) of " + text, tree.fault(2), cause);
-    }
-
-    /** Values that are never in a range from 0 up to below an end. */
-    private static int[] outside(int end) {
-        return new int[] {-1, end, Integer.MIN_VALUE, Integer.MAX_VALUE, end + 256, -end};
-    }
-
-    private void rotBoth(int block, int place, int value) {
-        tree.rot(block, 0, place, value);
-        tree.rot(block, 1, place, value);
-    }
-
-    private void rotAll(int block, int copy, int... numbers) {
-        for (int place = 0; place < 4; place++) {
-            tree.rot(block, copy, place, numbers[place]);
-        }
     }
 
     private void newObject() {
@@ -250,10 +194,10 @@ public final class PromiseTests {
     }
 
     private void writeFreeBlocks() {
-        for (int free = 0; free < 5; free++) {
+        for (int free = 0; free <= 4; free++) {
             tree = new SummedParents();
-            List<Integer> left = crowd(free);
-            due("count(1)", tree.count(1), free);
+            List<Integer> left = List.of(36, 40, 77, 95).subList(0, free);
+            crowd(left);
             due("count(5)", tree.count(5), free == 0 ? NONE : left.get(0));
             due("write(9, 4, 8)", tree.write(9, 4, 8), INVALID);
             if (free < 3) {
@@ -276,48 +220,6 @@ public final class PromiseTests {
             due("count(5)", tree.count(5), free == 3 ? NONE : left.get(3));
             due("write(9, 0, 9)", tree.write(9, 0, 9), LIMIT);
         }
-    }
-
-    /**
-     * Four older roots are spoiled and tell of all blocks that the latest one doesn't have, but
-     * for some; then one root more is freed. Returns the blocks left out.
-     */
-    private List<Integer> crowd(int leftOut) {
-        for (int value = 1; value < 6; value++) {
-            tree.write(0, 0, value);
-        }
-        List<Integer> tellable = new ArrayList<>();
-        for (int block = 0; block < 96; block++) {
-            // The latest root has 1 to 20 but for 16, and 33 to 35; the spoiled ones are in 32, 29, 26, 23.
-            boolean latest = block > 0 && block < 20 && block != 16 || block > 32 && block < 36;
-            boolean spoiled = block == 32 || block == 29 || block == 26 || block == 23;
-            if (!latest && !spoiled) {
-                tellable.add(block);
-            }
-        }
-        due("blocks to tell", tellable.size(), 71);
-        List<Integer> left = new ArrayList<>();
-        for (int count = 0; count < leftOut; count++) {
-            left.add(tellable.remove(5 + 6 * count));
-        }
-        int next = 0;
-        for (int root = 1; root < 5; root++) {
-            int block = tree.rootOf(root, 1);
-            for (int parent = 0; parent < 4; parent++) {
-                int parentBlock = tellable.get(next++ % tellable.size());
-                tree.rot(block, 0, parent, 256 * parentBlock + 255);
-                for (int child = 0; child < 4; child++) {
-                    int childBlock = tellable.get(next++ % tellable.size());
-                    if (next <= tellable.size() + 4) {
-                        tree.rot(parentBlock, 0, child, 256 * childBlock + 255);
-                    }
-                }
-            }
-            tree.rot(block, 1, 3, 3);
-            due("from of a spoiled root", tree.from(root, 0, 0), 2);
-        }
-        tree.free(5);
-        return left;
     }
 
     private void writeWrong() {
