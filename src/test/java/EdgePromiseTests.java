@@ -48,6 +48,7 @@ public final class EdgePromiseTests extends Fixture {
         test("10: none, and all", EdgePromiseTests::scrubCounts);
         test("10: each block once", EdgePromiseTests::scrubOnce);
         test("10: all blocks of all roots, as far as they are not spoiled", EdgePromiseTests::scrubAsFar);
+        test("10: all roots of the list, and none that is gone", EdgePromiseTests::scrubOfTheList);
         test("11: the empty set and the full one", EdgePromiseTests::leavesFull);
         test("11: the first leaf and the last one", EdgePromiseTests::leavesEnds);
         test("11: not spoiled, but", EdgePromiseTests::leavesNotSpoiled);
@@ -362,6 +363,20 @@ public final class EdgePromiseTests extends Fixture {
         due("count(4)", tree.count(4), 2);
     }
 
+    private void scrubOfTheList() {
+        tree.write(0, 0, 1);
+        due("free(1)", tree.free(1), 3);
+        // The blocks 0, 16 and 20 are free by that, and nothing tells of them.
+        tree.rot(20, 1, 0, 9);
+        tree.rot(16, 1, 0, 9);
+        rotAll(0, 0, 0, 0, 0, 244);
+        due("scrub()", tree.scrub(), 0);
+        due("content(20, 1, 0)", tree.content(20, 1, 0), 9);
+        due("content(16, 1, 0)", tree.content(16, 1, 0), 9);
+        dueContent(0, 0, 0, 0, 0, 244);
+        dueContent(0, 1, 0, 0, 0, 0);
+    }
+
     private void leavesFull() {
         for (int what = 0; what < 3; what++) {
             due("leaves(0, " + what + ")", tree.leaves(0, what), 0);
@@ -490,6 +505,14 @@ public final class EdgePromiseTests extends Fixture {
         due("rootOf(1, 3)", tree.rootOf(1, 3), 18);
         due("rootOf(0, 4)", tree.rootOf(0, 4), 3);
         due("rootOf(0, 3)", tree.rootOf(0, 3), 21);
+        // What belongs to the first and the last root, but not to the one between them, is not alone.
+        tree = new SummedParents();
+        tree.write(0, 0, 1);
+        tree.write(0, 0, 2);
+        rotBoth(23, 3, 256 * 96);
+        due("rootOf(0, 4), of three", tree.rootOf(0, 4), 3);
+        due("rootOf(1, 3), of three", tree.rootOf(1, 3), 16);
+        due("rootOf(2, 4), of three", tree.rootOf(2, 4), 3);
     }
 
     private void rootOfEight() {
@@ -539,7 +562,12 @@ public final class EdgePromiseTests extends Fixture {
         int told = tree.content(23, 0, 3);
         forgeBoth(23, 3, told + 1, 2);
         due("way(0, 15, 1, 0)", tree.way(0, 15, 1, 0), 19);
-        due("unlike(0, 1), another sum", tree.unlike(0, 1) & 0xF000, 0);
+        due("unlike(0, 1), another sum", tree.unlike(0, 1), 1);
+        tree = new SummedParents();
+        tree.write(0, 0, 1);
+        forgeBoth(22, 3, 256 * 3 + 8, 2);
+        dueWay(0, 2, 23, 22, 2);
+        due("unlike(0, 1), another sum of a leaf", tree.unlike(0, 1), 1);
         // So is one of 96 or more.
         tree = new SummedParents();
         tree.write(0, 0, 1);
@@ -569,6 +597,16 @@ public final class EdgePromiseTests extends Fixture {
         due("unlike(0, 1), leaf 96", tree.unlike(0, 1), 1 + 8);
         forgeBoth(23, 3, 256 * 96 + 7, 2);
         due("unlike(0, 1), parent 96", tree.unlike(0, 1), IMPOSSIBLE);
+        // A spoiled root tells nothing, also not of the block 0 with the sum 0.
+        for (int block : new int[] {23, 20}) {
+            tree = new SummedParents();
+            tree.write(1, 0, 1);
+            rotBoth(0, 3, 244);
+            due("unlike(0, 1)", tree.unlike(0, 1), 2);
+            rotBoth(block, 0, 9);
+            due("unlike(0, 1), root " + block, tree.unlike(0, 1), IMPOSSIBLE);
+            due("unlike(1, 0), root " + block, tree.unlike(1, 0), IMPOSSIBLE);
+        }
     }
 
     private void countRoots() {

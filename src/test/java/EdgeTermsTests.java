@@ -51,6 +51,7 @@ public final class EdgeTermsTests extends Fixture {
         test("in both copies", EdgeTermsTests::bothCopies);
         test("fewer than three free blocks", EdgeTermsTests::fewFreeBlocks);
         test("if that is spoiled, the write is NOT_POSSIBLE", EdgeTermsTests::spoiledWrites);
+        test("reads the leaf, the parent and the root as a reading does", EdgeTermsTests::readsFirst);
         test("torn: only its first two numbers", EdgeTermsTests::tornNumbers);
         test("torn: as they were in this block before", EdgeTermsTests::tornBefore);
         test("torn: numbers that were never laid are 0", EdgeTermsTests::tornNeverLaid);
@@ -277,6 +278,28 @@ public final class EdgeTermsTests extends Fixture {
         tree.undo();
         tree.write(0, 0, 5);
         due("rootOf(0, 0), after undo()", tree.rootOf(0, 0), 4);
+        // By undo() all that were gone have their numbers again.
+        tree = new SummedParents();
+        writeOften(7);
+        tree.free(4);
+        tree.back(3);
+        due("rootOf(0, 0), after back(3)", tree.rootOf(0, 0), 4);
+        due("rootOf(1, 0), after back(3)", tree.rootOf(1, 0), 2);
+        tree.undo();
+        for (int index = 0; index < 7; index++) {
+            int number = index < 4 ? 7 - index : 6 - index;
+            due("rootOf(" + index + ", 0), after one undo()", tree.rootOf(index, 0), number);
+        }
+        tree.undo();
+        for (int index = 0; index < 8; index++) {
+            due("rootOf(" + index + ", 0), after two", tree.rootOf(index, 0), 7 - index);
+        }
+        tree.back(7);
+        type("1.0=1;2.0=2;");
+        tree.play();
+        for (int index = 0; index < 3; index++) {
+            due("rootOf(" + index + ", 0), after play()", tree.rootOf(index, 0), index == 2 ? 0 : 9 - index);
+        }
     }
 
     private void firstRoot() {
@@ -401,6 +424,22 @@ public final class EdgeTermsTests extends Fixture {
         due("write(2, 0, 1)", tree.write(2, 0, 1), 0);
     }
 
+    private void readsFirst() {
+        // The root tells as the parent the free block 21, in which the leaf is laid then.
+        for (int copy = 0; copy < 2; copy++) {
+            rotAll(21, copy, 7, 263, 519, 775);
+        }
+        forgeBoth(20, 0, 256 * 21 + tree.content(21, 0, 4), 3);
+        dueWay(0, 0, 20, 21, 0);
+        due("write(0, 0, 9)", tree.write(0, 0, 9), 0);
+        dueContents(21, 9, 0, 0, 0);
+        // 36 + 7
+        dueContents(22, 256 * 21 + 43, 263, 519, 775);
+        due("read(0, 0, 0)", tree.read(0, 0, 0), 9);
+        due("read(0, 1, 0)", tree.read(0, 1, 0), 0);
+        dueFrom(1, 0, 0, 2, NONE);
+    }
+
     private void tornNumbers() {
         for (int place = 0; place < 4; place++) {
             tree = new SummedParents();
@@ -473,6 +512,17 @@ public final class EdgeTermsTests extends Fixture {
         dueContent(22, 1, 256 * 21 + 238, 263, 519, 775);
         dueContents(23, 256 * 22 + 216, 4428, 4633, 5089);
         dueFrom(0, 0, 0, 1, 1);
+        // All four numbers, of a leaf that is full and in blocks that were laid before.
+        tree.write(0, 1, 8);
+        tree.write(0, 2, 7);
+        tree.write(0, 3, 6);
+        due("free(2)", tree.free(2), 3);
+        due("count(5)", tree.count(5), 24);
+        tree.mishap(3);
+        tree.write(0, 0, 5);
+        dueContent(25, 0, 5, 8, 7, 6);
+        dueContent(24, 1, 5, 8, 7, 6);
+        dueContent(24, 0, tree.content(25, 1, 0), 263, 519, 775);
     }
 
     private void sumsOfMishaps() {
@@ -504,11 +554,21 @@ public final class EdgeTermsTests extends Fixture {
         }
         // A write that is refused leaves it for the next one.
         tree.mishap(2);
-        tree.write(0, 4, 9);
+        due("write, no place", tree.write(0, 4, 9), INVALID);
+        due("count(2)", tree.count(2), 2);
+        rotBoth(15, 0, 1);
+        due("write, spoiled", tree.write(15, 0, 9), IMPOSSIBLE);
         due("count(2)", tree.count(2), 2);
         tree.write(4, 0, 9);
         due("count(2)", tree.count(2), 0);
         dueFrom(0, 4, 0, 1, 0);
+        writeOften(4);
+        tree.mishap(3);
+        due("write with 8 roots", tree.write(0, 0, 9), LIMIT);
+        due("count(2)", tree.count(2), 3);
+        due("free(7)", tree.free(7) > 0 ? 1 : 0, 1);
+        tree.write(0, 3, 9);
+        dueFrom(0, 0, 0, 1, 1);
     }
 
     // ---- reading.
@@ -542,8 +602,10 @@ public final class EdgeTermsTests extends Fixture {
             tree.rot(blocks[level], 0, 3, 9);
             tree.rot(blocks[level], 1, 3, 10);
             for (int each = 0; each < 3; each++) {
-                due("from(0, 0, " + each + ")", tree.from(0, 0, each), each < level ? 0 : each == level ? 2 : NONE);
-                due("way(0, 0, " + each + ", 0)", tree.way(0, 0, each, 0), each <= level ? blocks[each] : NONE);
+                int from = each < level ? 0 : each == level ? 2 : NONE;
+                due("from(0, 0, " + each + ")", tree.from(0, 0, each), from);
+                int block = each <= level ? blocks[each] : NONE;
+                due("way(0, 0, " + each + ", 0)", tree.way(0, 0, each, 0), block);
             }
             due("read(0, 0, 0)", tree.read(0, 0, 0), IMPOSSIBLE);
             due("read(0, 15, 0)", tree.read(0, 15, 0), level == 0 ? IMPOSSIBLE : 0);
@@ -836,6 +898,7 @@ public final class EdgeTermsTests extends Fixture {
     private void breaks() {
         String write = "12.3=456;";
         for (int index = 0; index < write.length(); index++) {
+            tree = new SummedParents();
             for (char wrong : new char[] {'/', ':', ' ', '~', 'x', '-'}) {
                 String broken = write.substring(0, index) + wrong + write.substring(index + 1);
                 dueFault(broken, 0, 1, index);
@@ -844,6 +907,7 @@ public final class EdgeTermsTests extends Fixture {
         }
         String shortest = "1.3=4;";
         for (int index = 0; index < shortest.length(); index++) {
+            tree = new SummedParents();
             // Another sign of the form at the wrong place; a digit more of the leaf or the value isn't wrong.
             for (char sign : new char[] {';', '.', '='}) {
                 if (shortest.charAt(index) != sign) {
@@ -857,6 +921,7 @@ public final class EdgeTermsTests extends Fixture {
 
     private void endsTooEarly() {
         for (String write : new String[] {"12.3=456;", "1.3=4;", "01.0=00;"}) {
+            tree = new SummedParents();
             for (int length = 1; length < write.length(); length++) {
                 dueFault(write.substring(0, length), 0, 1, length);
                 dueFault("1.0=1;" + write.substring(0, length), 6, 1, length);
@@ -1067,6 +1132,8 @@ public final class EdgeTermsTests extends Fixture {
 
     private void indexOfRoots() {
         for (int roots = 1; roots <= 8; roots++) {
+            tree = new SummedParents();
+            writeOften(roots - 1);
             for (int index : new int[] {-1, 0, roots - 1, roots, 8, Integer.MIN_VALUE, Integer.MAX_VALUE}) {
                 boolean wrong = index < 0 || index >= roots;
                 due("read of " + index, tree.read(index, 1, 0), wrong ? INVALID : 0);
@@ -1083,7 +1150,6 @@ public final class EdgeTermsTests extends Fixture {
                 }
             }
             due("count(0)", tree.count(0), roots);
-            tree.write(0, 0, roots);
         }
     }
 }

@@ -3,8 +3,9 @@ import java.util.List;
 
 /** Long runs of calls, each answered by the class and by the model. */
 public final class ModelTests {
-    private static final int RUNS = 600;
-    private static final int CALLS = 500;
+    private static final int RUNS = 3000;
+    /** What later calls of an object answer is free. */
+    private static final int CALLS = 512;
 
     private final Check check;
     private final List<String> calls = new ArrayList<>();
@@ -28,7 +29,7 @@ public final class ModelTests {
     }
 
     private void runAll() {
-        for (int call = 0; call < CALLS && check.isClean(); call++) {
+        while (calls.size() < CALLS && check.isClean()) {
             switch (run % 5) {
                 case 0 -> step(30, 6, 8, 0);
                 case 1 -> step(25, 4, 25, 25);
@@ -37,7 +38,6 @@ public final class ModelTests {
                 default -> crowd();
             }
         }
-        sweep();
         if (!check.isClean()) {
             System.out.println("run " + run + ":");
             calls.forEach(each -> System.out.println("  " + each));
@@ -235,43 +235,21 @@ public final class ModelTests {
         write(0, some(4), some(1000));
     }
 
+    /** What there is to ask, but for what is asked by the way. */
     private void state() {
-        for (int what = 0; what < 8; what++) {
-            count(what);
-        }
-    }
-
-    private void sweep() {
-        for (int block = -1; block <= 96; block++) {
-            for (int copy = 0; copy < 2; copy++) {
-                for (int place = 0; place < 5; place++) {
-                    content(block, copy, place);
-                }
-            }
-        }
-        for (int root = -1; root < 9; root++) {
-            for (int what = 0; what < 5; what++) {
-                rootOf(root, what);
-                leaves(root, what);
-            }
-            for (int other = -1; other < 9; other++) {
-                unlike(root, other);
-            }
-            for (int leaf = -1; leaf <= 16; leaf++) {
-                for (int level = -1; level <= 3; level++) {
-                    way(root, leaf, level, 0);
-                    way(root, leaf, level, 1);
-                    from(root, leaf, level);
-                    read(root, leaf, level);
-                }
-            }
+        count(pick(8));
+        int block = pick(96);
+        content(block, pick(2), pick(5));
+        if (pick(4) == 0) {
+            ask();
         }
     }
 
     private void due(String call, int got, int want) {
-        if (calls.size() < 5000) {
-            calls.add(call + " " + want);
+        if (calls.size() == CALLS) {
+            return;
         }
+        calls.add(call + " " + want);
         check.due("run " + run + ": " + call, got, want);
     }
 

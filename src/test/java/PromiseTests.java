@@ -67,6 +67,7 @@ public final class PromiseTests extends Fixture {
             due("root's sum", tree.way(0, leaf, 0, 1), 111);
         }
         for (int copy = 0; copy < 2; copy++) {
+            tree = new SummedParents();
             dueContent(0, copy, 0, 0, 0, 0);
             dueContent(16, copy, 7, 263, 519, 775);
             dueContent(17, copy, 1031, 1287, 1543, 1799);
